@@ -492,7 +492,7 @@ public final class AvalancheInn {
         if (hoursTillGone(all) == NONE) {
             return NONE;
         }
-        return Integer.numberOfTrailingZeros(hill.state.gone & all);
+        return lowestBit(hill.state.gone & all);
     }
 
     public int awake(int hour) {
@@ -578,7 +578,7 @@ public final class AvalancheInn {
         if (what < 0 || what > 1 || memory.findFitting(hill, told, k) == 0) {
             return NONE;
         }
-        return what == 0 ? Integer.numberOfTrailingZeros(memory.fitting) : 31 - Integer.numberOfLeadingZeros(memory.fitting);
+        return what == 0 ? lowestBit(memory.fitting) : highestBit(memory.fitting);
     }
 
     public int ask(int what, int k) {
@@ -629,6 +629,22 @@ public final class AvalancheInn {
             case 17 -> told.wind;
             default -> NONE;
         };
+    }
+
+    private static int lowestBit(int bits) {
+        int bit = 0;
+        while (bit < 31 && (bits >> bit & 1) == 0) {
+            bit++;
+        }
+        return bit;
+    }
+
+    private static int highestBit(int bits) {
+        int bit = 31;
+        while (bit > 0 && (bits >> bit & 1) == 0) {
+            bit--;
+        }
+        return bit;
     }
 
     /** Where a cell of these numbers stands in a row of all cells; only for lanes and rows that there can be. */

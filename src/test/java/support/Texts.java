@@ -103,6 +103,9 @@ final class Texts {
             text.append("guest ").append(NAMES[guest]).append(" room ").append(NAMES[upTo(rooms - 1)]).append(" noise ");
             text.append(upTo(30)).append(" from ").append(from).append(" to ").append(from + upTo(12)).append(';');
         }
+        if (oneIn(2)) {
+            text.append("wind ").append(upTo(100)).append(";draw ").append(upTo(999)).append(';');
+        }
         if (oneIn(3)) {
             text.append(oneIn(2) ? "tips snow * steep + noise - below * 2 > 35;" : "tips noise > 20 and snow > 4;");
         }
