@@ -713,10 +713,10 @@ public final class AvalancheInn {
         final State first = new State();
 
         Pass() {
-            clear();
+            setEmpty();
         }
 
-        void clear() {
+        void setEmpty() {
             lanes = 4;
             rows = 3;
             rooms = 0;
@@ -748,8 +748,8 @@ public final class AvalancheInn {
         int awakeAt(State state, int hour) {
             int bits = 0;
             for (int guest = 0; guest < guests; guest++) {
-                boolean heard = !state.isHushed(guest) && !state.isGone(guestRooms[guest]);
-                if (heard && guestFroms[guest] <= hour && hour <= guestTos[guest]) {
+                int silent = state.hushed >> guest & 1 | state.gone >> guestRooms[guest] & 1;
+                if (silent == 0 && guestFroms[guest] <= hour && hour <= guestTos[guest]) {
                     bits |= 1 << guest;
                 }
             }
@@ -793,14 +793,14 @@ public final class AvalancheInn {
         int units;
         boolean heedsNoise;
 
-        void clear() {
+        void empty() {
             steps = 0;
             units = 0;
             heedsNoise = false;
         }
 
         void setUsual() {
-            clear();
+            empty();
             add(FACT, SNOW);
             add(FACT, STEEP);
             add(TIMES, 0);
@@ -829,7 +829,7 @@ public final class AvalancheInn {
                         top++;
                     }
                 } else if (kind == NOT && top > 0) {
-                    stack[top - 1] = bit(stack[top - 1] == 0);
+                    stack[top - 1] = stack[top - 1] == 0 ? 1 : 0;
                 } else if (top > 1) {
                     top--;
                     stack[top - 1] = joined(kind, stack[top - 1], stack[top]);
@@ -840,21 +840,17 @@ public final class AvalancheInn {
 
         private static int joined(int kind, int a, int b) {
             return switch (kind) {
-                case OR -> bit(a != 0 || b != 0);
-                case AND -> bit(a != 0 && b != 0);
-                case LESS -> bit(a < b);
-                case MORE -> bit(a > b);
-                case SAME -> bit(a == b);
+                case OR -> a != 0 || b != 0 ? 1 : 0;
+                case AND -> a != 0 && b != 0 ? 1 : 0;
+                case LESS -> a < b ? 1 : 0;
+                case MORE -> a > b ? 1 : 0;
+                case SAME -> a == b ? 1 : 0;
                 case PLUS -> a + b;
                 case MINUS -> a - b;
                 case TIMES -> a * b;
                 case SHARE -> b == 0 ? 0 : a / b;
                 default -> b == 0 ? 0 : a % b;
             };
-        }
-
-        private static int bit(boolean is) {
-            return is ? 1 : 0;
         }
     }
 
@@ -871,6 +867,7 @@ public final class AvalancheInn {
         private static final int WORD_COUNT = 27;
         private static final String SIGNS = ";()<>=+-*/%";
         private static final int MAX_LETTERS = 8;
+        private static final int LETTERS = 27;
         private static final int MAX_DIGITS = 4;
 
         private byte[] text = new byte[0];
@@ -890,13 +887,9 @@ public final class AvalancheInn {
                 if (WORDS.charAt(i) == ' ') {
                     word++;
                 } else {
-                    words[word] = withLetter(words[word], WORDS.charAt(i));
+                    words[word] = words[word] * LETTERS + (WORDS.charAt(i) - 'a' + 1);
                 }
             }
-        }
-
-        private static long withLetter(long before, int letter) {
-            return before * 32 + (letter - 'a' + 1);
         }
 
         void open(byte[] tape, int bytes) {
@@ -913,10 +906,10 @@ public final class AvalancheInn {
             place = at;
             if (at >= length) {
                 kind = END;
-            } else if (isLetter(text[at])) {
-                takeWord();
-            } else if (isDigit(text[at])) {
-                takeNumber();
+            } else if (text[at] >= 'a' && text[at] <= 'z') {
+                scanWord();
+            } else if (text[at] >= '0' && text[at] <= '9') {
+                scanNumber();
             } else {
                 value = text[at] & 255;
                 kind = SIGNS.indexOf((char) value) >= 0 ? SIGN : BAD;
@@ -924,11 +917,11 @@ public final class AvalancheInn {
             }
         }
 
-        private void takeWord() {
+        private void scanWord() {
             letters = 0;
-            for (; at < length && isLetter(text[at]); at++) {
+            for (; at < length && text[at] >= 'a' && text[at] <= 'z'; at++) {
                 if (at - place < MAX_LETTERS) {
-                    letters = withLetter(letters, text[at]);
+                    letters = letters * LETTERS + (text[at] - 'a' + 1);
                 }
             }
             kind = at - place > MAX_LETTERS ? BAD : WORD;
@@ -940,23 +933,15 @@ public final class AvalancheInn {
             }
         }
 
-        private void takeNumber() {
+        private void scanNumber() {
             value = 0;
-            for (; at < length && isDigit(text[at]); at++) {
+            for (; at < length && text[at] >= '0' && text[at] <= '9'; at++) {
                 if (at - place < MAX_DIGITS) {
                     value = value * 10 + (text[at] - '0');
                 }
             }
-            boolean letterBehind = at < length && isLetter(text[at]);
+            boolean letterBehind = at < length && text[at] >= 'a' && text[at] <= 'z';
             kind = at - place > MAX_DIGITS || letterBehind ? BAD : NUMBER;
-        }
-
-        private static boolean isLetter(int sign) {
-            return sign >= 'a' && sign <= 'z';
-        }
-
-        private static boolean isDigit(int sign) {
-            return sign >= '0' && sign <= '9';
         }
     }
 
@@ -1019,20 +1004,31 @@ public final class AvalancheInn {
 
         /** Whether the tape's bytes are a pass, which is then told to the one given. */
         boolean readTape(Pass into, byte[] tape, int bytes) {
+            begin(into);
+            lexer.open(tape, bytes);
+            boolean fine = true;
+            for (int i = 0; i <= MAX_BYTES && fine && lexer.kind != Lexer.END; i++) {
+                int word = lexer.value;
+                if (mayStand(word)) {
+                    linesTold |= 1 << word;
+                    lexer.advance();
+                    fine = readRest(word) && takeSign(';');
+                } else {
+                    fine = refuseToken();
+                }
+            }
+            return fine;
+        }
+
+        private void begin(Pass into) {
             pass = into;
-            pass.clear();
+            pass.setEmpty();
             linesTold = 0;
             slopesTold = 0;
             liesTold = 0;
             wallsTold = 0;
             faultKind = 0;
             faultPlace = NONE;
-            lexer.open(tape, bytes);
-            boolean fine = true;
-            for (int i = 0; i <= MAX_BYTES && fine && lexer.kind != Lexer.END; i++) {
-                fine = readLine();
-            }
-            return fine;
         }
 
         private boolean fail(int kind, int place) {
@@ -1077,17 +1073,11 @@ public final class AvalancheInn {
             return true;
         }
 
-        private boolean readLine() {
-            int word = lexer.value;
-            if (lexer.kind != Lexer.WORD || word < LANES || word > DRAW || !mayStand(word)) {
-                return refuseToken();
-            }
-            linesTold |= 1 << word;
-            lexer.advance();
-            return readRest(word) && takeSign(';');
-        }
-
+        /** Whether a line may begin with the token, a word of this number. */
         private boolean mayStand(int word) {
+            if (lexer.kind != Lexer.WORD || word < LANES || word > DRAW) {
+                return false;
+            }
             int sized = 1 << SLOPE | 1 << LIES | 1 << WALL | 1 << ROOM;
             boolean once = (linesTold >> word & 1) == 0;
             return switch (word) {
@@ -1112,7 +1102,7 @@ public final class AvalancheInn {
                 case GUEST:
                     return readGuest();
                 case TIPS:
-                    pass.tips.clear();
+                    pass.tips.empty();
                     return readPart(EITHER, 0);
                 default:
                     return readSetting(word);
@@ -1780,7 +1770,9 @@ public final class AvalancheInn {
         }
 
         private int leftBehind(int n) {
-            hill.passHours(n, pass.falls, false);
+            for (int i = 0; i < n; i++) {
+                hill.passHour(pass.falls, false);
+            }
             return hill.standingRates();
         }
 

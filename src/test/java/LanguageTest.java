@@ -2,8 +2,10 @@ import java.nio.charset.StandardCharsets;
 import java.nio.file.Files;
 import java.nio.file.Path;
 import java.util.ArrayList;
+import java.util.HashMap;
 import java.util.HashSet;
 import java.util.List;
+import java.util.Map;
 import java.util.Set;
 import java.util.regex.Matcher;
 import java.util.regex.Pattern;
@@ -12,6 +14,7 @@ import java.util.regex.Pattern;
 public final class LanguageTest {
     private static final Pattern METHOD = Pattern.compile(
             "^ {4,8}((?:public |private |static |final |abstract )*)(?:([a-zA-Z\\[\\]]+) )?([a-zA-Z]+)\\(([^()]*)\\) \\{$");
+    private static final Pattern CALL = Pattern.compile("\\b([a-zA-Z]+)\\(");
     private static final Set<String> LIBRARY = Set.of("System.arraycopy", "Arrays.fill", "Math.min", "Math.max",
             "Integer.bitCount");
     private static int wrong;
@@ -90,6 +93,7 @@ public final class LanguageTest {
     private static void methods(List<String> lines) {
         Set<String> face = new HashSet<>();
         List<String> others = new ArrayList<>();
+        Map<String, Set<String>> calls = new HashMap<>();
         int found = 0;
         for (int i = 0; i < lines.size(); i++) {
             Matcher method = METHOD.matcher(lines.get(i));
@@ -111,16 +115,30 @@ public final class LanguageTest {
             if (params > 7) {
                 refuse(11, i, params + " parameters");
             }
+            String name = method.group(3);
+            if (calls.put(name, new HashSet<>()) != null) {
+                refuse(11, i, "a name borne twice, so that depths can't be told: " + name);
+            }
             int end = i;
             String close = (inner ? "        " : "    ") + "}";
             while (!lines.get(end).equals(close)) {
                 end++;
+                Matcher call = CALL.matcher(lines.get(end));
+                while (call.find()) {
+                    calls.get(name).add(call.group(1));
+                }
                 if (!maker && lines.get(end).matches(".*\\bnew\\b.*")) {
                     refuse(12, end, "an object made in a call");
                 }
             }
             if (end - i > 60) {
                 refuse(11, i, (end - i) + " lines");
+            }
+        }
+        for (String name : face) {
+            int depth = depth(calls, name, new ArrayList<>());
+            if (depth > 8) {
+                refuse(11, 0, name + " goes " + depth + " deep");
             }
         }
         for (String name : others) {
@@ -131,6 +149,20 @@ public final class LanguageTest {
         if (face.size() != 52 || found < 150) {
             refuse(1, 0, face.size() + " public names, " + found + " methods in all");
         }
+    }
+
+    /** How deep calls go from a method, itself counted; a call of one that stands open is recursion. */
+    private static int depth(Map<String, Set<String>> calls, String name, List<String> open) {
+        if (!calls.containsKey(name) || open.contains(name)) {
+            return 0;
+        }
+        open.add(name);
+        int deepest = 0;
+        for (String called : calls.get(name)) {
+            deepest = Math.max(deepest, depth(calls, called, open));
+        }
+        open.remove(name);
+        return deepest + 1;
     }
 
     private static void classes(List<String> lines) {
