@@ -790,10 +790,12 @@ public final class AvalancheInn {
         private final int[] numbers = new int[MAX_STEPS];
         private final int[] stack = new int[MAX_UNITS + 1];
         private int steps;
+        private boolean usual;
         int units;
         boolean heedsNoise;
 
         void empty() {
+            usual = false;
             steps = 0;
             units = 0;
             heedsNoise = false;
@@ -801,13 +803,8 @@ public final class AvalancheInn {
 
         void setUsual() {
             empty();
-            add(FACT, SNOW);
-            add(FACT, STEEP);
-            add(TIMES, 0);
-            add(FACT, NOISE);
-            add(PLUS, 0);
-            add(NUMBER, 40);
-            add(MINUS, 0);
+            usual = true;
+            heedsNoise = true;
         }
 
         void add(int kind, int number) {
@@ -820,6 +817,9 @@ public final class AvalancheInn {
         }
 
         int worth(int[] facts) {
+            if (usual) {
+                return facts[SNOW] * facts[STEEP] + facts[NOISE] - 40;
+            }
             int top = 0;
             for (int i = 0; i < steps; i++) {
                 int kind = kinds[i];
