@@ -301,6 +301,10 @@ public final class PromiseTest {
         fault("tips lanes;", 2, 5);
         fault("tips 1 and;", 2, 10);
         fault("tips 1 1;", 2, 7);
+        String nots = "not ".repeat(7);
+        String longest = (nots + "0 and ").repeat(29) + nots;
+        due(6, "the longest formula", inn("lies 0 0 snow 1;tips " + longest + "0;").cell(0, 0, 3), 1);
+        due(6, "and its last unit counts", inn("lies 0 0 snow 1;tips " + longest + "1;").cell(0, 0, 3), 0);
         fine("tips not 1 < 2 and not 3 or 4 = 5;");
     }
 
