@@ -189,14 +189,19 @@ final class Texts {
         return numbers;
     }
 
-    /** Lays a text onto the tape of a new pass. */
-    static int tell(AvalancheInn inn, String text) {
+    /** Lays a text onto the tape, and nothing else. */
+    static void lay(AvalancheInn inn, String text) {
         inn.end(0);
         for (int i = 0; i < text.length(); i += 20) {
             int[] n = numbers(text, i);
             inn.feed(n[0], n[1], n[2], n[3], n[4]);
         }
         inn.end(text.length());
+    }
+
+    /** Lays a text onto the tape and tells it as a pass. */
+    static int tell(AvalancheInn inn, String text) {
+        lay(inn, text);
         return inn.pass();
     }
 }
