@@ -369,6 +369,11 @@ public final class ForesightBoundsTest {
                 + "tips snow = 9 or noise > 0 and snow = 8;");
         CHECKS.due("places(1): b in lane 0, a lost", sooner.places(1), 5);
         CHECKS.due("b, a", sooner.lies(0) * 10 + sooner.lies(1), 0);
+        // with b in lane 0, a is left in lane 1; better is b in lane 1, and then a is lost in any lane: the first
+        AvalancheInn dearer = CHECKS.inn("lanes 2;rows 1;falls 0;lies 0 0 snow 9;lies 1 0 snow 1;tips snow = 9 or noise > 0;"
+                + "room b lane 0 bears 1 rate 5;room a lane 0 bears 0;guest g room b noise 1 from 0 to 47;");
+        CHECKS.due("places(1)", dearer.places(1), 5);
+        CHECKS.due("b, a", dearer.lies(0) * 10 + dearer.lies(1), 10);
     }
 
     private static void hushes() {
@@ -665,6 +670,11 @@ public final class ForesightBoundsTest {
         CHECKS.due("0, 1", mute.lies(0) * 2 + mute.lies(1), 1);
         CHECKS.due("r SINGS", mute.duel(2, 0), 2);
         CHECKS.due("1, 0", mute.lies(0) * 2 + mute.lies(1), 2);
+        // p's room goes in any case: to sing is better than not, whatever mute q does
+        AvalancheInn anyway = CHECKS.inn("lanes 2;rows 1;falls 0;lies 0 0 snow 9;tips 1;room a lane 0 bears 1;"
+                + "room b lane 1 bears 1;guest p room a noise 1 from 0 to 47;guest q room b noise 0 from 0 to 47;");
+        CHECKS.due("p SINGS", anyway.duel(0, 1), 2);
+        CHECKS.due("1, 0", anyway.lies(0) * 2 + anyway.lies(1), 2);
         CHECKS.sentence("35: behind 0: nothing");
         // one alone brings 9 down, by which p's room goes, both bring 14, by which both go: by turns each has more
         // by the other way
