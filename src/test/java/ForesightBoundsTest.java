@@ -225,7 +225,8 @@ public final class ForesightBoundsTest {
         }
         CHECKS.leaves("least(0): no SNOW", x -> x.least(0), -1);
         CHECKS.leaves("least(1)", x -> x.least(1), 26);
-        String text = "lanes 2;rows 2;lies 1 1 snow 3;room a lane 1 bears 0;guest g room a noise 5 from 0 to 47;tips noise > ";
+        String text = "lanes 2;rows 2;lies 1 1 snow 3;room a lane 1 bears 0;"
+                + "guest g room a noise 5 from 0 to 47;tips noise > ";
         CHECKS.due("5 is not enough", CHECKS.inn(text + "4;").least(1), 0);
         CHECKS.due("1", CHECKS.inn(text + "5;").least(1), 1);
         CHECKS.due("98", CHECKS.inn(text + "102;").least(1), 98);
@@ -253,7 +254,8 @@ public final class ForesightBoundsTest {
         }
         int[] lanes = {0, 0, 1};
         for (int n = 22; n <= 24; n++) {
-            AvalancheInn inn = CHECKS.inn("lanes 2;rows 1;falls 0;lies 0 0 snow 5;tips hour = 23;room a lane 0 bears 4 rate 3;");
+            AvalancheInn inn = CHECKS.inn("lanes 2;rows 1;falls 0;lies 0 0 snow 5;tips hour = 23;"
+                    + "room a lane 0 bears 4 rate 3;");
             CHECKS.due("places(" + n + ")", inn.places(n), 3);
             CHECKS.due("in lane", inn.lies(0), lanes[n - 22]);
             CHECKS.due("nothing is done", inn.room(0, 0), 0);
@@ -502,7 +504,8 @@ public final class ForesightBoundsTest {
         CHECKS.sentence("==== 3: DAM: by which LEFT behind n is most");
         damDue(one + "room a lane 1 bears 1 rate 4;room b lane 0 bears 1 rate 3;room c lane 2 bears 1 rate 2;", 1, 1, 2, 7);
         damDue(one + "room a lane 1 bears 1 rate 4;room b lane 0 bears 1 rate 2;room c lane 2 bears 1 rate 3;", 1, 1, 1, 7);
-        damDue(one + "room a lane 1 bears 1 rate 2;room b lane 0 bears 1 rate 2;room c lane 2 bears 1 rate 3;", -1, -1, -1, -1);
+        damDue(one + "room a lane 1 bears 1 rate 2;room b lane 0 bears 1 rate 2;room c lane 2 bears 1 rate 3;",
+                -1, -1, -1, -1);
         damDue(one + "room a lane 1 bears 1 rate 3;room b lane 0 bears 1 rate 2;room c lane 2 bears 1 rate 3;", 1, 1, 1, 6);
     }
 
@@ -725,7 +728,8 @@ public final class ForesightBoundsTest {
         }
         CHECKS.leaves("borne(0)", x -> x.borne(0), 99);
         CHECKS.leaves("borne(1): no ROOM is there", x -> x.borne(1), 99);
-        String text = "lanes 2;rows 1;falls 0;lies 0 0 snow 5;lies 1 0 snow 5;room a lane 0 bears 4;room b lane 1 bears 5;tips ";
+        String text = "lanes 2;rows 1;falls 0;lies 0 0 snow 5;lies 1 0 snow 5;"
+                + "room a lane 0 bears 4;room b lane 1 bears 5;tips ";
         CHECKS.due("by none", CHECKS.inn(text + "1;").borne(0), -1);
         CHECKS.due("borne: 5 come", CHECKS.inn(text + "1;").borne(1), 99);
         CHECKS.due("0", CHECKS.inn(text + "noise > 0;").borne(0), 0);
@@ -809,10 +813,11 @@ public final class ForesightBoundsTest {
         }
         CHECKS.leaves("law(0)", x -> x.law(0), 1);
         CHECKS.leaves("law(1)", x -> x.law(1), 0);
-        CHECKS.due("in the 24th", CHECKS.inn("lanes 1;rows 1;falls 0;tips hour = 23;room a lane 0 bears 4 rate 3;").law(1), 0);
-        CHECKS.due("in the 25th", CHECKS.inn("lanes 1;rows 1;falls 0;tips hour = 24;room a lane 0 bears 4 rate 3;").law(1), 3);
-        AvalancheInn inn = CHECKS.inn("lanes 1;rows 1;falls 5;tips hour = 23;room a lane 0 bears 23;room b lane 0 bears 24 rate 2;"
-                + "room c lane 0 bears 47 rate 4;room d lane 0 bears 48 rate 8;room e lane 0 bears 99 rate 16;");
+        String text = "lanes 1;rows 1;falls 0;room a lane 0 bears 4 rate 3;tips hour = ";
+        CHECKS.due("in the 24th", CHECKS.inn(text + "23;").law(1), 0);
+        CHECKS.due("in the 25th", CHECKS.inn(text + "24;").law(1), 3);
+        AvalancheInn inn = CHECKS.inn("lanes 1;rows 1;falls 5;tips hour = 23;room a lane 0 bears 23;"
+                + "room b lane 0 bears 24 rate 2;room c lane 0 bears 47 rate 4;room d lane 0 bears 48 rate 8;room e lane 0 bears 99 rate 16;");
         CHECKS.due("law(0)", inn.law(0), 31);
         CHECKS.due("law(1): 24", inn.law(1), 30);
         CHECKS.due("law(2): 48", inn.law(2), 24);

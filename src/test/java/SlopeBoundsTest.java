@@ -380,7 +380,8 @@ public final class SlopeBoundsTest {
         CHECKS.due("nothing lies there", falls.heap(0), 0);
         CHECKS.sentence("==== 2: the PURSE has as much more as the rates of all ROOMS that STAND");
         AvalancheInn purse = CHECKS.inn("lanes 2;rows 1;falls 0;lies 0 0 snow 1;tips hour = 1;"
-                + "room a lane 0 bears 0 rate 7;room b lane 1 bears 0 rate 20;room c lane 0 bears 1;room d lane 1 bears 0 rate 0;");
+                + "room a lane 0 bears 0 rate 7;room b lane 1 bears 0 rate 20;room c lane 0 bears 1;"
+                + "room d lane 1 bears 0 rate 0;");
         int[] want = {28, 49, 70};
         for (int i = 0; i < want.length; i++) {
             CHECKS.due("gone", purse.hour(), i == 1 ? 1 : 0);
