@@ -817,7 +817,8 @@ public final class ForesightBoundsTest {
         CHECKS.due("in the 24th", CHECKS.inn(text + "23;").law(1), 0);
         CHECKS.due("in the 25th", CHECKS.inn(text + "24;").law(1), 3);
         AvalancheInn inn = CHECKS.inn("lanes 1;rows 1;falls 5;tips hour = 23;room a lane 0 bears 23;"
-                + "room b lane 0 bears 24 rate 2;room c lane 0 bears 47 rate 4;room d lane 0 bears 48 rate 8;room e lane 0 bears 99 rate 16;");
+                + "room b lane 0 bears 24 rate 2;room c lane 0 bears 47 rate 4;room d lane 0 bears 48 rate 8;"
+                + "room e lane 0 bears 99 rate 16;");
         CHECKS.due("law(0)", inn.law(0), 31);
         CHECKS.due("law(1): 24", inn.law(1), 30);
         CHECKS.due("law(2): 48", inn.law(2), 24);

@@ -281,7 +281,8 @@ public final class SeenBoundsTest {
     private static void asTold() {
         CHECKS.sentence("==== 4: of the pass as it was told (nothing is done but HOURS, no wind)");
         AvalancheInn inn = CHECKS.inn("lanes 2;rows 2;falls 0;wind 100;lies 1 1 snow 4;"
-                + "tips row = 0 and hour = 1 and noise < 9;room a lane 1 bears 13;room b lane 0 bears 13;guest g room b noise 9 from 5 to 6;");
+                + "tips row = 0 and hour = 1 and noise < 9;room a lane 1 bears 13;room b lane 0 bears 13;"
+                + "guest g room b noise 9 from 5 to 6;");
         inn.seen(2, 0, true);
         CHECKS.due("10 and more", inn.sure(0, 0), 10);
         inn.hour();
